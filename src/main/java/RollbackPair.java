@@ -205,7 +205,7 @@ public final class RollbackPair {
             }
             // What is known of its own inputs is always DELAY ahead, so the next one is the due one.
             own.learn(input);
-            playFrame(at);
+            playFrames(at, at + 1);
             at++;
             sendPacket();
             return at - 1;
@@ -215,17 +215,13 @@ public final class RollbackPair {
             stalls++;
             if (stalls == STALLS_TO_CUT) {
                 others.ended = true;
-                playAgain(firstWrong(others.count));
+                playFrames(firstWrong(others.count), at);
             }
         }
 
-        private void playFrame(int frame) {
-            history.play(frame, inputsOf(0).use(frame), inputsOf(1).use(frame));
-        }
-
-        private void playAgain(int from) {
-            for (int frame = from; frame < at; frame++) {
-                playFrame(frame);
+        private void playFrames(int from, int end) {
+            for (int frame = from; frame < end; frame++) {
+                history.play(frame, inputsOf(0).use(frame), inputsOf(1).use(frame));
             }
         }
 
@@ -267,7 +263,7 @@ public final class RollbackPair {
             int knownBefore = others.count;
             learnFrom(packet);
             int from = firstWrong(knownBefore);
-            playAgain(from);
+            playFrames(from, at);
             return at - from;
         }
 
@@ -388,7 +384,14 @@ public final class RollbackPair {
         }
 
         private void move(State before, int player, int input) {
-            float speed = before.speeds[player] * 0.875f + push(input) * 0.3f;
+            float push = 0f;
+            if ((input & LEFT) != 0) {
+                push = push - 1f;
+            }
+            if ((input & RIGHT) != 0) {
+                push = push + 1f;
+            }
+            float speed = before.speeds[player] * 0.875f + push * 0.3f;
             if ((input & BRAKE) != 0) {
                 speed = speed * 0.5f;
             }
@@ -402,15 +405,6 @@ public final class RollbackPair {
             }
             places[player] = place;
             speeds[player] = speed;
-        }
-
-        private static float push(int input) {
-            boolean left = (input & LEFT) != 0;
-            boolean right = (input & RIGHT) != 0;
-            if (left == right) {
-                return 0f;
-            }
-            return right ? 1f : -1f;
         }
 
         private void bounceApart() {

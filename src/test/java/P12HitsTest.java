@@ -51,18 +51,18 @@ public final class P12HitsTest {
 
     private static void testHitsGoBackWithTheState() {
         RollbackPair x = new RollbackPair(0, 8, 0);
-        for (int i = 0; i < 7; i++) {
+        for (int i = 0; i < 4; i++) {
             x.advance(1, 1);
-            x.advance(0, 2);
             x.deliver(0);
+            x.advance(0, 2);
+            x.deliver(1);
         }
-        DUE.same("not yet", x.hits(0), 0);
         x.advance(1, 2);
-        x.advance(0, 2);
-        DUE.same("a hit by a guess", x.hits(0), 1);
+        for (int i = 0; i < 4; i++) {
+            DUE.same("advance", x.advance(0, 2), 4 + i);
+        }
+        DUE.same("a hit by a wrong guess", x.hits(0), 1);
         x.deliver(0);
-        int again = x.hits(0);
-        float gap = x.place(0, 1) - x.place(0, 0);
-        DUE.same("as the state says", again, gap == 1f ? 1 : 0);
+        DUE.same("there was none", x.hits(0), 0);
     }
 }

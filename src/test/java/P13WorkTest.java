@@ -5,6 +5,7 @@ public final class P13WorkTest {
     public static void main(String[] args) {
         testWrongArguments();
         testWorkGrows();
+        testWorkOfBothInManyFrames();
         testWorkGoesBackWithTheState();
         DUE.end();
     }
@@ -20,32 +21,30 @@ public final class P13WorkTest {
 
     private static void testWorkGrows() {
         RollbackPair x = new RollbackPair(0, 8, 0);
-        for (int i = 0; i < 8; i++) {
-            x.advance(1, 1);
-        }
+        x.advance(0, 2);
+        double first = (double) 0.3f * (double) 0.3f;
+        DUE.same("after one frame", x.work(0), first);
+        x.advance(0, 4);
+        double second = (0.3f * 0.875f) * 0.5f;
+        DUE.same("after two frames", x.work(0), first + second * second);
+        DUE.same("none at the other", x.work(1), 0.0);
+    }
+
+    /** Each packet comes before the frame is played, so that no guess is ever wrong. */
+    private static void testWorkOfBothInManyFrames() {
+        RollbackPair x = new RollbackPair(0, 8, 0);
         double work = 0.0;
-        for (int i = 0; i < 40; i++) {
-            x.advance(0, i % 3 + 1);
+        for (int i = 0; i < 60; i++) {
+            x.advance(1, i % 5 == 4 ? 6 : 1);
             x.deliver(0);
-            if (x.about(0, 0) != i + 1) {
-                break;
-            }
-            if (i == 0) {
-                continue;
-            }
+            DUE.same("advance", x.advance(0, i % 7 == 6 ? 5 : 2), i);
+            x.deliver(1);
             double s = x.speed(0, 0);
             double t = x.speed(0, 1);
-            work = i == 1 ? x.work(0) : work + (s * s + t * t);
+            work = work + (s * s + t * t);
             DUE.same("work after " + i, x.work(0), work);
         }
-        RollbackPair y = new RollbackPair(0, 8, 0);
-        y.advance(0, 2);
-        double first = (double) 0.3f * (double) 0.3f;
-        DUE.same("after one frame", y.work(0), first);
-        y.advance(0, 4);
-        double second = (0.3f * 0.875f) * 0.5f;
-        DUE.same("after two frames", y.work(0), first + second * second);
-        DUE.same("none at the other", y.work(1), 0.0);
+        DUE.same("through hits", x.hits(0) > 0, true);
     }
 
     private static void testWorkGoesBackWithTheState() {
