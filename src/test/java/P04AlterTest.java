@@ -6,6 +6,7 @@ public final class P04AlterTest {
         testWrongArguments();
         testLost();
         testTwice();
+        testCopyIsWhole();
         testCopyIsItsOwn();
         testToTheEnd();
         testFullRow();
@@ -57,6 +58,16 @@ public final class P04AlterTest {
         DUE.same("known by the second", x.known(1, 0), 6);
         DUE.same("the copy is no later", x.deliver(1), -2);
         DUE.same("none left", x.deliver(1), RollbackPair.NONE);
+    }
+
+    private static void testCopyIsWhole() {
+        RollbackPair x = new RollbackPair(4, 8, 9);
+        x.advance(0, 3);
+        DUE.same("twice", x.alter(1, 1), true);
+        DUE.same("the first is lost", x.alter(1, 0), true);
+        DUE.same("the copy is taken", x.deliver(1), 0);
+        DUE.same("its inputs", x.known(1, 0), 5);
+        DUE.same("its frame", x.advice(1), -0.25);
     }
 
     private static void testCopyIsItsOwn() {

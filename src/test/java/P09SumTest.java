@@ -5,6 +5,7 @@ public final class P09SumTest {
     public static void main(String[] args) {
         testWrongArguments();
         testSumOfAState();
+        testSumWithHits();
         testFifteenBack();
         testStatesPlayedAgain();
         testSameAtBoth();
@@ -47,6 +48,15 @@ public final class P09SumTest {
             DUE.same("state " + i, x.sum(1, i + 1), sumNow(x, 1));
         }
         DUE.same("the first one is kept", x.sum(1, 0), h);
+    }
+
+    private static void testSumWithHits() {
+        RollbackPair x = P10PlaceTest.alone(0);
+        for (int i = 1; i < 40; i++) {
+            x.advance(0, 2);
+            DUE.same("state " + i, x.sum(0, i + 1), sumNow(x, 0));
+        }
+        DUE.same("there were hits", x.hits(0) > 1, true);
     }
 
     private static void testFifteenBack() {

@@ -7,6 +7,7 @@ public final class P10PlaceTest {
         testStepByStep();
         testLeftAndRightWalls();
         testBounceApart();
+        testExactlyAtAnEdge();
         DUE.end();
     }
 
@@ -80,5 +81,25 @@ public final class P10PlaceTest {
         DUE.same("place of 1", x.place(0, 1), middle + 0.5f);
         DUE.same("speed of 0", x.speed(0, 0), 0.0);
         DUE.same("speed of 1", x.speed(0, 1), speed);
+    }
+
+    /** Inputs that a search has found: each run ends exactly at an edge, which is not beyond it. */
+    private static void testExactlyAtAnEdge() {
+        int[] toLeftWall = {6, 7, 1, 1, 1, 5, 1, 3, 1, 2, 3, 1, 1, 3, 1};
+        int[] toRightWall = {3, 2, 2, 2, 2, 2, 5, 1, 5, 2, 2, 3, 2, 1, 2, 4, 2, 2};
+        int[] toTheOther = {2, 1, 2, 2, 2, 2, 3, 4, 2, 2, 4, 2, 2, 2, 5, 2, 2, 2, 2, 2, 2};
+        DUE.same("at 0 it moves on", afterInputs(0, toLeftWall, 0f) < 0f, true);
+        DUE.same("at 32 it moves on", afterInputs(1, toRightWall, 32f) > 0f, true);
+        DUE.same("1 apart it moves on", afterInputs(0, toTheOther, 23f) > 0f, true);
+    }
+
+    private static float afterInputs(int player, int[] inputs, float place) {
+        RollbackPair x = alone(player);
+        for (int input : inputs) {
+            x.advance(player, input);
+        }
+        DUE.same("exactly there", x.place(player, player), place);
+        DUE.same("no hit", x.hits(player), 0);
+        return x.speed(player, player);
     }
 }
