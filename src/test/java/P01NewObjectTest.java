@@ -69,15 +69,16 @@ public final class P01NewObjectTest {
 
     private static void testStartIsCutToShort() {
         int[][] cases = {
-            {0, 0}, {7, 7}, {-3, -3}, {32767, 32767}, {32768, -32768}, {65535, -1}, {65536, 0},
-            {0x12345678, 0x5678}, {Integer.MIN_VALUE, 0}, {Integer.MAX_VALUE, -1}};
+            {0, 0}, {1, 1}, {7, 7}, {-1, -1}, {-3, -3}, {32766, 32766}, {32767, 32767},
+            {32768, -32768}, {32769, -32767}, {-32767, -32767}, {-32768, -32768}, {-32769, 32767},
+            {65535, -1}, {65536, 0}, {65537, 1}, {-65536, 0}, {-65537, -1}, {0x12345678, 0x5678},
+            {0x1234ABCD, 0xABCD - 65536}, {Integer.MIN_VALUE, 0}, {Integer.MAX_VALUE, -1}};
         for (int[] one : cases) {
             for (int peer = 0; peer < 2; peer++) {
                 RollbackPair x = new RollbackPair(0, 8, one[0]);
                 x.advance(1 - peer, 5);
-                Parts sent = new Parts(one[1], 1, 0, 0, 1, 5L);
-                sent.become(new Parts(one[1], 1, 0, 0, 1, 6L), x, peer);
-                x.deliver(peer);
+                Parts due = new Parts(one[1], 1, 0, 0, 1, 5L);
+                DUE.same("to " + peer + ", start " + one[0], due.arrives(x, peer), true);
                 DUE.same("known, start " + one[0], x.known(peer, 1 - peer), 1);
             }
         }

@@ -33,7 +33,7 @@ public final class P02AdvanceTest {
 
     private static void testWrongArguments() {
         RollbackPair x = new RollbackPair(0, 1, 0);
-        int[] wrong = {-1, 2, Integer.MIN_VALUE, Integer.MAX_VALUE};
+        int[] wrong = Play.NO_PEER;
         for (int peer : wrong) {
             DUE.same("no such peer", x.advance(peer, 0), -2);
         }

@@ -26,7 +26,7 @@ public final class P03DeliverTest {
 
     private static void testNothingThere() {
         RollbackPair x = new RollbackPair(0, 8, 0);
-        int[] wrong = {-1, 2, Integer.MIN_VALUE, Integer.MAX_VALUE};
+        int[] wrong = Play.NO_PEER;
         for (int peer : wrong) {
             DUE.same("no such peer", x.deliver(peer), RollbackPair.NONE);
         }
@@ -270,19 +270,20 @@ public final class P03DeliverTest {
     }
 
     private static void testLaterInputsAfterLongAckLag() {
-        RollbackPair x = new RollbackPair(0, 1, 0);
-        for (int i = 0; i < 13; i++) {
-            x.advance(0, i & 7);
+        int[] inputs = new int[220];
+        for (int i = 0; i < inputs.length; i++) {
+            inputs[i] = (i * i / 3 + i / 16) % 8;
         }
-        for (int i = 1; i < 300; i++) {
+        RollbackPair x = Play.alone(0, inputs[0]);
+        for (int i = 1; i < inputs.length; i++) {
             x.alter(1, 0);
-            x.advance(0, i % 8);
+            x.advance(0, inputs[i]);
         }
         DUE.same("taken", x.deliver(1), 0);
         DUE.same("the first sixteen", x.known(1, 0), 16);
-        for (int i = 0; i < 15; i++) {
+        for (int i = 0; i < 16; i++) {
             x.advance(1, 0);
-            DUE.same("input " + i, x.used(1, 0, i), i % 8);
+            DUE.same("input " + i, x.used(1, 0, i), inputs[i]);
         }
     }
 }

@@ -12,7 +12,7 @@ public final class P07KnownTest {
 
     private static void testWrongArguments() {
         RollbackPair x = new RollbackPair(2, 8, 0);
-        int[] wrong = {-1, 2, Integer.MIN_VALUE, Integer.MAX_VALUE};
+        int[] wrong = Play.NO_PEER;
         for (int one : wrong) {
             DUE.same("no such peer", x.known(one, 0), RollbackPair.NONE);
             DUE.same("no such player", x.known(0, one), RollbackPair.NONE);

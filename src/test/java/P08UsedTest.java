@@ -13,7 +13,7 @@ public final class P08UsedTest {
     private static void testWrongArguments() {
         RollbackPair x = new RollbackPair(4, 8, 0);
         x.advance(0, 3);
-        int[] wrong = {-1, 2, Integer.MIN_VALUE, Integer.MAX_VALUE};
+        int[] wrong = Play.NO_PEER;
         for (int one : wrong) {
             DUE.same("no such peer", x.used(one, 0, 0), RollbackPair.NONE);
             DUE.same("no such player", x.used(0, one, 0), RollbackPair.NONE);
@@ -26,19 +26,33 @@ public final class P08UsedTest {
         DUE.same("not by the other", x.used(1, 0, 0), RollbackPair.NONE);
     }
 
+    /** A new object for each frame to be at, since an object is good for 512 calls alone. */
     private static void testFifteenBack() {
-        RollbackPair x = new RollbackPair(0, 1, 0);
-        for (int i = 0; i < 13; i++) {
-            x.advance(0, 5);
-        }
-        for (int at = 1; at < 60; at++) {
-            for (int frame = -3; frame < at + 20; frame++) {
-                boolean there = frame >= 0 && frame < at && frame >= at - 15;
-                int due = frame == 0 ? 5 : frame % 8;
-                DUE.same("at " + at + " frame " + frame, x.used(0, 0, frame), there ? due : -1);
-                DUE.same("at " + at + " other's", x.used(0, 1, frame), there ? 0 : -1);
+        for (int at = 1; at <= 40; at++) {
+            for (int peer = 0; peer < 2; peer++) {
+                RollbackPair x = Play.alone(peer, 5);
+                for (int i = 1; i < at; i++) {
+                    x.advance(peer, i % 7);
+                }
+                isFifteenBack(x, peer, at);
             }
-            x.advance(0, at % 8);
+        }
+    }
+
+    private static void isFifteenBack(RollbackPair x, int peer, int at) {
+        for (int frame = -3; frame < at + 20; frame++) {
+            boolean there = frame >= 0 && frame < at && frame >= at - 15;
+            int due = frame == 0 ? 5 : frame % 7;
+            String where = "at " + at + " frame " + frame;
+            DUE.same(where, x.used(peer, peer, frame), there ? due : RollbackPair.NONE);
+            DUE.same(where + ", other's", x.used(peer, 1 - peer, frame), there ? 0 : -1);
+            DUE.same(where + ", by the other", x.used(1 - peer, peer, frame), RollbackPair.NONE);
+        }
+        int[] far = {at - 65536, at + 65536, Integer.MIN_VALUE,
+            Integer.MIN_VALUE + at, Integer.MAX_VALUE};
+        for (int frame : far) {
+            boolean there = frame >= 0 && frame < at && frame >= at - 15;
+            DUE.same("far " + frame, x.used(peer, 1 - peer, frame), there ? 0 : -1);
         }
     }
 

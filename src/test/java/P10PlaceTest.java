@@ -7,13 +7,12 @@ public final class P10PlaceTest {
         testStepByStep();
         testLeftAndRightWalls();
         testBounceApart();
-        testExactlyAtAnEdge();
         DUE.end();
     }
 
     private static void testWrongArguments() {
         RollbackPair x = new RollbackPair(0, 8, 0);
-        int[] wrong = {-1, 2, Integer.MIN_VALUE, Integer.MAX_VALUE};
+        int[] wrong = Play.NO_PEER;
         for (int one : wrong) {
             DUE.same("no such peer", x.place(one, 0), -100.0);
             DUE.same("no such player", x.place(1, one), -100.0);
@@ -34,18 +33,9 @@ public final class P10PlaceTest {
         }
     }
 
-    /** A pair whose peer has cut off the other one and goes on alone. */
-    static RollbackPair alone(int peer) {
-        RollbackPair x = new RollbackPair(0, 1, 0);
-        for (int i = 0; i < 13; i++) {
-            x.advance(peer, 0);
-        }
-        return x;
-    }
-
     private static void testLeftAndRightWalls() {
         for (int player = 0; player < 2; player++) {
-            RollbackPair x = alone(player);
+            RollbackPair x = Play.alone(player);
             float speed = 0f;
             float place = player == 0 ? 8f : 24f;
             float push = player == 0 ? -1f : 1f;
@@ -67,7 +57,7 @@ public final class P10PlaceTest {
     }
 
     private static void testBounceApart() {
-        RollbackPair x = alone(0);
+        RollbackPair x = Play.alone(0);
         float speed = 0f;
         float place = 8f;
         for (int i = 0; i < 30 && x.hits(0) == 0; i++) {
@@ -81,25 +71,5 @@ public final class P10PlaceTest {
         DUE.same("place of 1", x.place(0, 1), middle + 0.5f);
         DUE.same("speed of 0", x.speed(0, 0), 0.0);
         DUE.same("speed of 1", x.speed(0, 1), speed);
-    }
-
-    /** Inputs that a search has found: each run ends exactly at an edge, which is not beyond it. */
-    private static void testExactlyAtAnEdge() {
-        int[] toLeftWall = {6, 7, 1, 1, 1, 5, 1, 3, 1, 2, 3, 1, 1, 3, 1};
-        int[] toRightWall = {3, 2, 2, 2, 2, 2, 5, 1, 5, 2, 2, 3, 2, 1, 2, 4, 2, 2};
-        int[] toTheOther = {2, 1, 2, 2, 2, 2, 3, 4, 2, 2, 4, 2, 2, 2, 5, 2, 2, 2, 2, 2, 2};
-        DUE.same("at 0 it moves on", afterInputs(0, toLeftWall, 0f) < 0f, true);
-        DUE.same("at 32 it moves on", afterInputs(1, toRightWall, 32f) > 0f, true);
-        DUE.same("1 apart it moves on", afterInputs(0, toTheOther, 23f) > 0f, true);
-    }
-
-    private static float afterInputs(int player, int[] inputs, float place) {
-        RollbackPair x = alone(player);
-        for (int input : inputs) {
-            x.advance(player, input);
-        }
-        DUE.same("exactly there", x.place(player, player), place);
-        DUE.same("no hit", x.hits(player), 0);
-        return x.speed(player, player);
     }
 }

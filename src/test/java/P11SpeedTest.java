@@ -13,7 +13,7 @@ public final class P11SpeedTest {
         RollbackPair x = new RollbackPair(0, 8, 0);
         x.advance(0, 2);
         x.advance(1, 2);
-        int[] wrong = {-1, 2, Integer.MIN_VALUE, Integer.MAX_VALUE};
+        int[] wrong = Play.NO_PEER;
         for (int one : wrong) {
             DUE.same("no such peer", x.speed(one, 0), 0.0);
             DUE.same("no such player", x.speed(1, one), 0.0);

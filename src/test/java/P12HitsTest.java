@@ -11,7 +11,7 @@ public final class P12HitsTest {
 
     private static void testWrongArguments() {
         RollbackPair x = new RollbackPair(0, 8, 0);
-        int[] wrong = {-1, 2, Integer.MIN_VALUE, Integer.MAX_VALUE};
+        int[] wrong = Play.NO_PEER;
         for (int one : wrong) {
             DUE.same("no such peer", x.hits(one), RollbackPair.NONE);
         }
@@ -19,7 +19,7 @@ public final class P12HitsTest {
     }
 
     private static void testHitsAreCounted() {
-        RollbackPair x = P10PlaceTest.alone(0);
+        RollbackPair x = Play.alone(0);
         int hits = 0;
         float[] places = {8f, 24f};
         float[] speeds = {0f, 0f};

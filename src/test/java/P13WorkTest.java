@@ -12,7 +12,7 @@ public final class P13WorkTest {
 
     private static void testWrongArguments() {
         RollbackPair x = new RollbackPair(0, 8, 0);
-        int[] wrong = {-1, 2, Integer.MIN_VALUE, Integer.MAX_VALUE};
+        int[] wrong = Play.NO_PEER;
         for (int one : wrong) {
             DUE.same("no such peer", x.work(one), -1.0);
         }

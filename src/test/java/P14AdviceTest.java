@@ -7,6 +7,7 @@ public final class P14AdviceTest {
         testEachTakenPacket();
         testDroppedPacketsAdviseNothing();
         testDifferenceWraps();
+        testManyPacketsAreRounded();
         DUE.end();
     }
 
@@ -17,7 +18,7 @@ public final class P14AdviceTest {
         }
         x.deliver(1);
         DUE.same("there is advice", x.advice(1), -0.25);
-        int[] wrong = {-1, 2, Integer.MIN_VALUE, Integer.MAX_VALUE};
+        int[] wrong = Play.NO_PEER;
         for (int one : wrong) {
             DUE.same("no such peer", x.advice(one), 0.0);
         }
@@ -61,5 +62,30 @@ public final class P14AdviceTest {
             DUE.same("taken", x.deliver(0), 0);
             DUE.same("frame " + frame, x.advice(0), 0.25f * (float) (1 - frame));
         }
+    }
+
+    /** After some twelve packets the advice has more digits than a float: each step is rounded. */
+    private static void testManyPacketsAreRounded() {
+        RollbackPair x = Play.alone(1);
+        float due = 0f;
+        boolean otherSteps = false;
+        boolean oneStep = false;
+        for (int i = 0; i < 70; i++) {
+            int frame = i * i * i % 1009;
+            Parts sent = new Parts(i, i + 1, 0, 0, Math.min(16, i + 1), 0L);
+            Parts wanted = new Parts(i, frame, 0, 0, Math.min(16, i + 1), 0L);
+            x.spoil(0, 1, sent.frame ^ frame);
+            x.spoil(0, 6, sent.check() ^ wanted.check());
+            DUE.same("taken", x.deliver(0), 0);
+            float stepped = due + 0.25f * (-frame - due);
+            float atOnce = (float) (due * 0.75 + 0.25 * -frame);
+            due = due * 0.75f + 0.25f * -frame;
+            DUE.same("advice " + i, x.advice(0), due);
+            otherSteps = otherSteps || due != stepped;
+            oneStep = oneStep || due != atOnce;
+            x.advance(1, 0);
+        }
+        DUE.same("in other steps it would be another one", otherSteps, true);
+        DUE.same("and in one step too", oneStep, true);
     }
 }
